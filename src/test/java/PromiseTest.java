@@ -538,10 +538,15 @@ public final class PromiseTest {
         Cellarscheduler x = new Cellarscheduler();
         x.brew(0, 500, 100, 0);
         x.pass(4);
-        for (int call = 2; call < 511; call++) {
-            x.measure(0, call % 2 == 0 ? 20 : 90);
+        for (int call = 3; call <= 510; call++) {
+            x.measure(0, 90);
         }
-        check.due("after 511 calls", 0, x.classAnew(0));
+        x.measure(0, 20);
+        check.due("the 512th call", 0, x.classAnew(0));
+        for (int call = 513; call <= 600; call++) {
+            x.measure(0, 20);
+        }
+        check.due("later answers are free, but are answers", 0, x.classAnew(0));
 
         Cellarscheduler y = new Cellarscheduler();
         y.brew(0, 1000, 300, 0);
