@@ -1,15 +1,5 @@
 /** Tests of the promises 1 to 14, a method for each. */
 public final class PromiseTest {
-    private static final int TANK = 0;
-    private static final int LITRES = 1;
-    private static final int STRENGTH = 2;
-    private static final int MEASURED = 3;
-    private static final int CLASS = 4;
-    private static final int LABELS = 5;
-    private static final int VOID = 6;
-    private static final int BOTTLES = 7;
-    private static final int STATE = 8;
-
     private static final Check check = new Check();
 
     public static void main(String[] args) {
@@ -39,48 +29,6 @@ public final class PromiseTest {
         check.end();
     }
 
-    /** A cellar with one ripe keen brew in tank 0, its strength measured. */
-    private static Cellarscheduler ripe(int litres, int strength) {
-        Cellarscheduler x = new Cellarscheduler();
-        x.brew(0, litres, 100, 0);
-        x.pass(4);
-        x.measure(0, strength);
-        return x;
-    }
-
-    /** All that can be told of a cellar, to see that nothing changed. */
-    private static String all(Cellarscheduler x) {
-        StringBuilder told = new StringBuilder();
-        told.append(x.paid()).append('/').append(x.owed());
-        for (int tank = 0; tank < 8; tank++) {
-            told.append(' ').append(x.inTank(tank));
-        }
-        for (int brew = 0; brew < 20 && isThere(x, brew); brew++) {
-            told.append("; ").append(x.classAnew(brew)).append(':').append(text(x, brew));
-            for (int what = 0; what <= 8; what++) {
-                told.append(' ').append(x.ofBrew(brew, what));
-            }
-        }
-        return told.toString();
-    }
-
-    private static boolean isThere(Cellarscheduler x, int brew) {
-        try {
-            x.ofBrew(brew, TANK);
-            return true;
-        } catch (IndexOutOfBoundsException none) {
-            return false;
-        }
-    }
-
-    private static String text(Cellarscheduler x, int brew) {
-        StringBuilder text = new StringBuilder();
-        for (int place = 0; place < 40 && x.label(brew, place) != 0; place++) {
-            text.append(x.label(brew, place));
-        }
-        return text.toString();
-    }
-
     private static void promise1NewObject() {
         Cellarscheduler x = new Cellarscheduler();
         for (int tank = 0; tank < 8; tank++) {
@@ -95,7 +43,7 @@ public final class PromiseTest {
 
     private static void promise2Brew() {
         Cellarscheduler x = new Cellarscheduler();
-        String before = all(x);
+        String before = Cellars.all(x);
         check.noSuch("tank -1", () -> x.brew(-1, 1, 50, 0));
         check.noSuch("tank 8", () -> x.brew(8, 1, 50, 0));
         check.noSuch("yeast -1", () -> x.brew(0, 1, 50, -1));
@@ -106,16 +54,16 @@ public final class PromiseTest {
         check.outOfRange("litres 1001", () -> x.brew(0, 1001, 50, 0));
         check.outOfRange("extract 49", () -> x.brew(0, 1, 49, 0));
         check.outOfRange("extract 301", () -> x.brew(0, 1, 301, 0));
-        check.due("nothing changed", before, all(x));
+        check.due("nothing changed", before, Cellars.all(x));
 
         check.due("least of all", 0, x.brew(0, 1, 50, 0));
         check.due("most of all", 1, x.brew(7, 1000, 300, 2));
-        check.due("litres of 0", 1, x.ofBrew(0, LITRES));
-        check.due("litres of 1", 1000, x.ofBrew(1, LITRES));
-        String begun = all(x);
+        check.due("litres of 0", 1, x.ofBrew(0, Cellars.LITRES));
+        check.due("litres of 1", 1000, x.ofBrew(1, Cellars.LITRES));
+        String begun = Cellars.all(x);
         check.notNow("tank not empty", () -> x.brew(7, 1, 50, 0));
         check.outOfRange("litres before a tank that is not empty", () -> x.brew(7, 0, 50, 0));
-        check.due("nothing changed by that", begun, all(x));
+        check.due("nothing changed by that", begun, Cellars.all(x));
 
         Cellarscheduler y = new Cellarscheduler();
         for (int number = 0; number < 20; number++) {
@@ -139,10 +87,10 @@ public final class PromiseTest {
             x.brew(0, 10, extracts[i], 0);
             x.brew(1, 10, extracts[i], 1);
             x.brew(2, 10, extracts[i], 2);
-            check.due("keen of " + extracts[i], keen[i], x.ofBrew(0, STRENGTH));
-            check.due("calm of " + extracts[i], calm[i], x.ofBrew(1, STRENGTH));
-            check.due("slow of " + extracts[i], slow[i], x.ofBrew(2, STRENGTH));
-            check.due("foretold is not measured", 0, x.ofBrew(0, MEASURED));
+            check.due("keen of " + extracts[i], keen[i], x.ofBrew(0, Cellars.STRENGTH));
+            check.due("calm of " + extracts[i], calm[i], x.ofBrew(1, Cellars.STRENGTH));
+            check.due("slow of " + extracts[i], slow[i], x.ofBrew(2, Cellars.STRENGTH));
+            check.due("foretold is not measured", 0, x.ofBrew(0, Cellars.MEASURED));
         }
     }
 
@@ -157,9 +105,9 @@ public final class PromiseTest {
         for (int yeast = 0; yeast < 3; yeast++) {
             x.brew(yeast, 10, 100, yeast);
             x.pass(days[yeast] - 1);
-            check.due("not ripe, yeast " + yeast, 0, x.ofBrew(yeast, STATE));
+            check.due("not ripe, yeast " + yeast, 0, x.ofBrew(yeast, Cellars.STATE));
             x.pass(1);
-            check.due("ripe, yeast " + yeast, 1, x.ofBrew(yeast, STATE));
+            check.due("ripe, yeast " + yeast, 1, x.ofBrew(yeast, Cellars.STATE));
         }
     }
 
@@ -174,10 +122,10 @@ public final class PromiseTest {
         check.due("before it is ripe", 1, x.print(0, 1));
         check.due("more of them", 1001, x.print(0, 1000));
         check.due("up to 2000", 2000, x.print(0, 999));
-        String before = all(x);
+        String before = Cellars.all(x);
         check.notNow("2001", () -> x.print(0, 1));
         check.outOfRange("many 0 before 2000", () -> x.print(0, 0));
-        check.due("nothing changed", before, all(x));
+        check.due("nothing changed", before, Cellars.all(x));
         x.pass(4);
         x.bottle(0, 9);
         check.due("room again", 2000, x.print(0, 9));
@@ -187,18 +135,18 @@ public final class PromiseTest {
     }
 
     private static void promise4PrintAnotherClass() {
-        Cellarscheduler x = ripe(100, 50);
+        Cellarscheduler x = Cellars.ripe(100, 50);
         x.print(0, 1000);
         x.print(0, 1000);
         x.measure(0, 28);
-        check.due("labels stay when less is measured", 2000, x.ofBrew(0, LABELS));
+        check.due("labels stay when less is measured", 2000, x.ofBrew(0, Cellars.LABELS));
         check.due("another class voids", 700, x.print(0, 700));
-        check.due("not void", 700, x.ofBrew(0, LABELS));
-        check.due("void", 2000, x.ofBrew(0, VOID));
+        check.due("not void", 700, x.ofBrew(0, Cellars.LABELS));
+        check.due("void", 2000, x.ofBrew(0, Cellars.VOID));
         x.measure(0, 0);
         check.due("another strength of the class voids nothing", 701, x.print(0, 1));
-        check.due("void still", 2000, x.ofBrew(0, VOID));
-        check.due("text of the last", "ALE 0.0% OF TANK 0", text(x, 0));
+        check.due("void still", 2000, x.ofBrew(0, Cellars.VOID));
+        check.due("text of the last", "ALE 0.0% OF TANK 0", Cellars.text(x, 0));
     }
 
     private static void promise5Label() {
@@ -211,39 +159,39 @@ public final class PromiseTest {
         check.noSuch("brew 1", () -> x.label(1, 0));
         check.noSuch("brew -1", () -> x.label(-1, 0));
         x.print(0, 1);
-        check.due("text", "ALE 5.0% OF TANK 7", text(x, 0));
+        check.due("text", "ALE 5.0% OF TANK 7", Cellars.text(x, 0));
         check.due("behind the last", 0, x.label(0, 18));
         check.due("far behind the last", 0, x.label(0, Integer.MAX_VALUE));
         int[] strengths = {0, 9, 10, 50, 51, 75, 76, 99, 100, 250};
         String[] texts = {"ALE 0.0%", "ALE 0.9%", "ALE 1.0%", "ALE 5.0%", "STRONG ALE 5.1%", "STRONG ALE 7.5%",
             "STRONG ALE 7.6%", "STRONG ALE 9.9%", "STRONG ALE 10.0%", "STRONG ALE 25.0%"};
         for (int i = 0; i < strengths.length; i++) {
-            String before = text(x, 0);
+            String before = Cellars.text(x, 0);
             x.measure(0, strengths[i]);
-            check.due("as it was printed, also if void", before, text(x, 0));
+            check.due("as it was printed, also if void", before, Cellars.text(x, 0));
             x.print(0, 1);
-            check.due("text of " + strengths[i], texts[i] + " OF TANK 7", text(x, 0));
+            check.due("text of " + strengths[i], texts[i] + " OF TANK 7", Cellars.text(x, 0));
         }
         x.pass(4);
         x.print(0, 1);
         x.bottle(0, 2);
-        check.due("gone, none left", "STRONG ALE 25.0% OF TANK 7", text(x, 0));
+        check.due("gone, none left", "STRONG ALE 25.0% OF TANK 7", Cellars.text(x, 0));
     }
 
     private static void promise6Bottle() {
         int[] strengths = {0, 28, 29, 50, 51, 75, 76, 250};
         int[] stamps = {1, 1, 3, 3, 6, 6, 12, 12};
         for (int i = 0; i < strengths.length; i++) {
-            Cellarscheduler x = ripe(1000, strengths[i]);
+            Cellarscheduler x = Cellars.ripe(1000, strengths[i]);
             x.print(0, 1000);
             check.due("bottle at " + strengths[i], 10 * stamps[i], x.bottle(0, 10));
-            check.due("litres", 990, x.ofBrew(0, LITRES));
-            check.due("labels", 990, x.ofBrew(0, LABELS));
-            check.due("none void", 0, x.ofBrew(0, VOID));
-            check.due("bottles", 10, x.ofBrew(0, BOTTLES));
+            check.due("litres", 990, x.ofBrew(0, Cellars.LITRES));
+            check.due("labels", 990, x.ofBrew(0, Cellars.LABELS));
+            check.due("none void", 0, x.ofBrew(0, Cellars.VOID));
+            check.due("bottles", 10, x.ofBrew(0, Cellars.BOTTLES));
             check.due("the rest", 990 * stamps[i], x.bottle(0, 990));
-            check.due("gone", 2, x.ofBrew(0, STATE));
-            check.due("all bottles", 1000, x.ofBrew(0, BOTTLES));
+            check.due("gone", 2, x.ofBrew(0, Cellars.STATE));
+            check.due("all bottles", 1000, x.ofBrew(0, Cellars.BOTTLES));
             check.due("tank is empty", -1, x.inTank(0));
         }
         Cellarscheduler y = new Cellarscheduler();
@@ -259,13 +207,13 @@ public final class PromiseTest {
         x.brew(0, 10, 120, 0);
         x.print(0, 20);
         x.pass(3);
-        String before = all(x);
+        String before = Cellars.all(x);
         check.noSuch("brew 1, before many", () -> x.bottle(1, 0));
         check.noSuch("brew -1", () -> x.bottle(-1, 1));
         check.outOfRange("many 0, before not ripe", () -> x.bottle(0, 0));
         check.outOfRange("many 1001", () -> x.bottle(0, 1001));
         check.notNow("not ripe", () -> x.bottle(0, 1));
-        check.due("nothing changed", before, all(x));
+        check.due("nothing changed", before, Cellars.all(x));
         x.pass(1);
         check.notNow("not so many litres", () -> x.bottle(0, 11));
         check.notNow("as many as may be asked", () -> x.bottle(0, 1000));
@@ -276,13 +224,13 @@ public final class PromiseTest {
         x.measure(0, 51);
         check.notNow("labels are void", () -> x.bottle(0, 1));
         x.print(0, 3);
-        String printed = all(x);
+        String printed = Cellars.all(x);
         check.notNow("not so many labels", () -> x.bottle(0, 4));
-        check.due("nothing changed by that", printed, all(x));
+        check.due("nothing changed by that", printed, Cellars.all(x));
         check.due("as many as labels", 18, x.bottle(0, 3));
         x.print(0, 10);
         x.bottle(0, 6);
-        check.due("labels left of a brew that is gone", 4, x.ofBrew(0, LABELS));
+        check.due("labels left of a brew that is gone", 4, x.ofBrew(0, Cellars.LABELS));
         check.notNow("gone", () -> x.bottle(0, 1));
         check.outOfRange("many before gone", () -> x.bottle(0, 0));
     }
@@ -291,15 +239,15 @@ public final class PromiseTest {
         Cellarscheduler x = new Cellarscheduler();
         check.noSuch("no brew yet", () -> x.measure(0, 1));
         x.brew(0, 100, 60, 0);
-        String before = all(x);
+        String before = Cellars.all(x);
         check.noSuch("brew -1", () -> x.measure(-1, 1));
         check.noSuch("brew 1, before strength", () -> x.measure(1, -1));
         check.outOfRange("strength -1", () -> x.measure(0, -1));
         check.outOfRange("strength 251", () -> x.measure(0, 251));
-        check.due("nothing changed", before, all(x));
+        check.due("nothing changed", before, Cellars.all(x));
         check.due("least, before it is ripe", 0, x.measure(0, 0));
-        check.due("strength", 0, x.ofBrew(0, STRENGTH));
-        check.due("measured", 1, x.ofBrew(0, MEASURED));
+        check.due("strength", 0, x.ofBrew(0, Cellars.STRENGTH));
+        check.due("measured", 1, x.ofBrew(0, Cellars.MEASURED));
         check.due("nothing owed without bottles", 0, x.measure(0, 250));
         x.measure(0, 10);
         x.pass(4);
@@ -315,46 +263,46 @@ public final class PromiseTest {
         check.due("7 from 0 and 15 from 1 to 3", 7 * 11 + 15 * 9, x.measure(0, 76));
         check.due("owed", 20 + 7 * 11 + 15 * 9, x.owed());
         check.due("never again", 0, x.measure(0, 250));
-        check.due("bottles are counted still", 22, x.ofBrew(0, BOTTLES));
+        check.due("bottles are counted still", 22, x.ofBrew(0, Cellars.BOTTLES));
         check.due("what was paid stays", 10 + 15 + 7, x.paid());
 
-        Cellarscheduler y = ripe(10, 28);
+        Cellarscheduler y = Cellars.ripe(10, 28);
         y.print(0, 12);
         y.bottle(0, 10);
         check.due("a brew that is gone", 50, y.measure(0, 51));
-        check.due("its labels are void", 2, y.ofBrew(0, VOID));
+        check.due("its labels are void", 2, y.ofBrew(0, Cellars.VOID));
         check.due("then from 2 to 3", 60, y.measure(0, 76));
-        check.due("and its strength", 76, y.ofBrew(0, STRENGTH));
+        check.due("and its strength", 76, y.ofBrew(0, Cellars.STRENGTH));
     }
 
     private static void promise7MeasureVoidsLabels() {
         int[] tops = {28, 50, 75};
         for (int top : tops) {
-            Cellarscheduler x = ripe(100, top - 5);
+            Cellarscheduler x = Cellars.ripe(100, top - 5);
             x.print(0, 9);
             x.measure(0, top);
-            check.due("class not above at " + top, 9, x.ofBrew(0, LABELS));
+            check.due("class not above at " + top, 9, x.ofBrew(0, Cellars.LABELS));
             x.measure(0, top + 1);
-            check.due("class above " + top, 0, x.ofBrew(0, LABELS));
-            check.due("void above " + top, 9, x.ofBrew(0, VOID));
+            check.due("class above " + top, 0, x.ofBrew(0, Cellars.LABELS));
+            check.due("void above " + top, 9, x.ofBrew(0, Cellars.VOID));
             x.measure(0, top);
-            check.due("void they stay", 0, x.ofBrew(0, LABELS));
+            check.due("void they stay", 0, x.ofBrew(0, Cellars.LABELS));
             x.print(0, 4);
             x.measure(0, 250);
-            check.due("voids add up", 13, x.ofBrew(0, VOID));
+            check.due("voids add up", 13, x.ofBrew(0, Cellars.VOID));
         }
     }
 
     private static void promise7MeasureLess() {
-        Cellarscheduler x = ripe(100, 80);
+        Cellarscheduler x = Cellars.ripe(100, 80);
         x.print(0, 50);
         x.bottle(0, 20);
         check.due("nothing is owed", 0, x.measure(0, 30));
-        check.due("labels stay", 30, x.ofBrew(0, LABELS));
-        check.due("none void", 0, x.ofBrew(0, VOID));
+        check.due("labels stay", 30, x.ofBrew(0, Cellars.LABELS));
+        check.due("none void", 0, x.ofBrew(0, Cellars.VOID));
         check.notNow("but they are of another class", () -> x.bottle(0, 1));
         check.due("below the labels still", 0, x.measure(0, 75));
-        check.due("labels stay still", 30, x.ofBrew(0, LABELS));
+        check.due("labels stay still", 30, x.ofBrew(0, Cellars.LABELS));
         check.due("back", 0, x.measure(0, 76));
         check.due("bottles by old labels", 12, x.bottle(0, 1));
     }
@@ -365,14 +313,14 @@ public final class PromiseTest {
         x.brew(2, 300, 200, 1);
         x.pass(7);
         check.due("of 37 and 75", (37 * 600 + 75 * 100) / 700, x.blend(0, 1, 100));
-        check.due("strength", 42, x.ofBrew(0, STRENGTH));
-        check.due("gets", 700, x.ofBrew(0, LITRES));
-        check.due("gives", 200, x.ofBrew(1, LITRES));
-        check.due("the other's strength stays", 75, x.ofBrew(1, STRENGTH));
+        check.due("strength", 42, x.ofBrew(0, Cellars.STRENGTH));
+        check.due("gets", 700, x.ofBrew(0, Cellars.LITRES));
+        check.due("gives", 200, x.ofBrew(1, Cellars.LITRES));
+        check.due("the other's strength stays", 75, x.ofBrew(1, Cellars.STRENGTH));
         check.due("all of it", (42 * 700 + 75 * 200) / 900, x.blend(0, 1, 200));
-        check.due("the other is gone", 2, x.ofBrew(1, STATE));
+        check.due("the other is gone", 2, x.ofBrew(1, Cellars.STATE));
         check.due("its tank is empty", -1, x.inTank(2));
-        check.due("its tank is told still", 2, x.ofBrew(1, TANK));
+        check.due("its tank is told still", 2, x.ofBrew(1, Cellars.TANK));
         check.due("the tank takes another", 2, x.brew(2, 1000, 50, 2));
     }
 
@@ -386,17 +334,17 @@ public final class PromiseTest {
         x.print(0, 60);
         x.bottle(0, 50);
         check.due("to class 2", 60, x.blend(0, 1, 50));
-        check.due("measured", 1, x.ofBrew(0, MEASURED));
+        check.due("measured", 1, x.ofBrew(0, Cellars.MEASURED));
         check.due("owed", 250, x.owed());
-        check.due("void", 10, x.ofBrew(0, VOID));
-        check.due("left", 0, x.ofBrew(0, LABELS));
+        check.due("void", 10, x.ofBrew(0, Cellars.VOID));
+        check.due("left", 0, x.ofBrew(0, Cellars.LABELS));
         check.due("owed once", 0, x.measure(0, 75));
         x.print(0, 5);
         x.measure(1, 0);
         check.due("a blend brings it back", (75 * 100) / 150, x.blend(0, 1, 50));
         check.due("nothing more is owed", 250, x.owed());
-        check.due("labels stay when it is less", 5, x.ofBrew(0, LABELS));
-        check.due("its class", 1, x.ofBrew(0, CLASS));
+        check.due("labels stay when it is less", 5, x.ofBrew(0, Cellars.LABELS));
+        check.due("its class", 1, x.ofBrew(0, Cellars.CLASS));
     }
 
     private static void promise8BlendForetold() {
@@ -414,20 +362,20 @@ public final class PromiseTest {
             x.print(0, 60);
             x.bottle(0, 50);
             check.due("to class 2", 64, x.blend(0, 1, 50));
-            check.due("foretold", 0, x.ofBrew(0, MEASURED));
+            check.due("foretold", 0, x.ofBrew(0, Cellars.MEASURED));
             check.due("nothing is owed", 0, x.owed());
-            check.due("nothing is void", 0, x.ofBrew(0, VOID));
-            check.due("all are left", 10, x.ofBrew(0, LABELS));
+            check.due("nothing is void", 0, x.ofBrew(0, Cellars.VOID));
+            check.due("all are left", 10, x.ofBrew(0, Cellars.LABELS));
             check.notNow("labels are of another class", () -> x.bottle(0, 1));
-            check.due("the other stays as it was", which == 2 ? 1 : 0, x.ofBrew(1, MEASURED));
+            check.due("the other stays as it was", which == 2 ? 1 : 0, x.ofBrew(1, Cellars.MEASURED));
             x.measure(1, 100);
             x.blend(0, 1, 50);
-            check.due("foretold with measured", 0, x.ofBrew(0, MEASURED));
+            check.due("foretold with measured", 0, x.ofBrew(0, Cellars.MEASURED));
             x.measure(0, 70);
             check.due("owed by a measure", 250, x.owed());
-            check.due("void by a measure", 10, x.ofBrew(0, VOID));
+            check.due("void by a measure", 10, x.ofBrew(0, Cellars.VOID));
             x.blend(0, 1, 50);
-            check.due("measured with measured", 1, x.ofBrew(0, MEASURED));
+            check.due("measured with measured", 1, x.ofBrew(0, Cellars.MEASURED));
         }
     }
 
@@ -438,7 +386,7 @@ public final class PromiseTest {
         x.brew(1, 700, 100, 1);
         x.brew(2, 10, 100, 0);
         x.pass(4);
-        String before = all(x);
+        String before = Cellars.all(x);
         check.noSuch("brew 3", () -> x.blend(3, 0, 1));
         check.noSuch("other 3", () -> x.blend(0, 3, 1));
         check.noSuch("other -1", () -> x.blend(0, -1, 0));
@@ -451,20 +399,20 @@ public final class PromiseTest {
         check.notNow("the one is not ripe", () -> x.blend(1, 0, 1));
         check.notNow("the other is not ripe", () -> x.blend(0, 1, 1));
         check.notNow("not so much", () -> x.blend(0, 2, 11));
-        check.due("nothing changed", before, all(x));
+        check.due("nothing changed", before, Cellars.all(x));
         x.pass(3);
-        String ripe = all(x);
+        String ripe = Cellars.all(x);
         check.notNow("the tank does not hold it", () -> x.blend(0, 1, 601));
-        check.due("nothing changed by that", ripe, all(x));
+        check.due("nothing changed by that", ripe, Cellars.all(x));
         check.due("the tank is full", (41 * 400 + 37 * 600) / 1000, x.blend(0, 1, 600));
-        check.due("full", 1000, x.ofBrew(0, LITRES));
+        check.due("full", 1000, x.ofBrew(0, Cellars.LITRES));
         check.notNow("no drop more", () -> x.blend(0, 1, 1));
         x.blend(1, 2, 10);
-        String gone = all(x);
+        String gone = Cellars.all(x);
         check.notNow("the other is gone", () -> x.blend(0, 2, 1));
         check.notNow("the one is gone", () -> x.blend(2, 0, 1));
         check.outOfRange("both are one that is gone", () -> x.blend(2, 2, 1));
-        check.due("nothing changed by these", gone, all(x));
+        check.due("nothing changed by these", gone, Cellars.all(x));
     }
 
     private static void promise9OfBrew() {
@@ -498,7 +446,7 @@ public final class PromiseTest {
         int[] classes = {0, 0, 1, 1, 2, 2, 3, 3};
         for (int i = 0; i < strengths.length; i++) {
             x.measure(0, strengths[i]);
-            check.due("class of " + strengths[i], classes[i], x.ofBrew(0, CLASS));
+            check.due("class of " + strengths[i], classes[i], x.ofBrew(0, Cellars.CLASS));
         }
     }
 
@@ -555,9 +503,9 @@ public final class PromiseTest {
         for (int i = 0; i < 100; i++) {
             y.blend(1, 0, 2);
             y.blend(0, 1, 1);
-            check.due("step " + i, y.ofBrew(0, CLASS), y.classAnew(0));
+            check.due("step " + i, y.ofBrew(0, Cellars.CLASS), y.classAnew(0));
         }
-        check.due("the other one", y.ofBrew(1, CLASS), y.classAnew(1));
+        check.due("the other one", y.ofBrew(1, Cellars.CLASS), y.classAnew(1));
     }
 
     private static void promise11InTank() {
@@ -575,13 +523,13 @@ public final class PromiseTest {
         check.due("a litre left", 0, x.inTank(7));
         x.bottle(0, 1);
         check.due("empty", -1, x.inTank(7));
-        check.due("the tank of one that is gone", 7, x.ofBrew(0, TANK));
+        check.due("the tank of one that is gone", 7, x.ofBrew(0, Cellars.TANK));
         x.brew(7, 5, 60, 0);
         check.due("another one", 2, x.inTank(7));
     }
 
     private static void promise12Paid() {
-        Cellarscheduler x = ripe(100, 28);
+        Cellarscheduler x = Cellars.ripe(100, 28);
         x.brew(1, 100, 300, 0);
         x.pass(4);
         x.print(0, 100);
@@ -597,7 +545,7 @@ public final class PromiseTest {
     }
 
     private static void promise13Owed() {
-        Cellarscheduler x = ripe(100, 28);
+        Cellarscheduler x = Cellars.ripe(100, 28);
         x.brew(1, 100, 60, 0);
         x.pass(4);
         x.print(0, 100);
@@ -616,7 +564,7 @@ public final class PromiseTest {
     }
 
     private static void promise14Pay() {
-        Cellarscheduler x = ripe(100, 28);
+        Cellarscheduler x = Cellars.ripe(100, 28);
         check.due("nothing is owed", 0, x.pay(1));
         x.print(0, 100);
         x.bottle(0, 100);
