@@ -31,6 +31,7 @@ public final class StrengthBoundaryTest {
         blendMeasuredNotAboveDoesNot();
         blendForetoldDoesNot();
         blendForetoldIsNotMeasuredAfterIt();
+        blendOfOneBroughtBackDoesNot();
         blendLeavesTheOtherAsItWas();
         classAnewBrewIsThere();
         classAnewAtTheClasses();
@@ -357,6 +358,33 @@ public final class StrengthBoundaryTest {
         x.measure(2, 40);
         x.blend(0, 2, 1);
         check.due("measured with measured", 1, x.ofBrew(0, Cellars.MEASURED));
+    }
+
+    // "otherwise as foretold, which changes nothing of labels and bottles"; "2 its strength; 3 whether that was measured".
+    private static void blendOfOneBroughtBackDoesNot() {
+        Cellarscheduler x = labelled(28, false);
+        check.due("measured with foretold", 28, x.blend(0, 1, 1));
+        x.measure(1, 250);
+        check.due("brought back, with measured", 30, x.blend(0, 1, 1));
+        check.due("it is foretold", 0, x.ofBrew(0, Cellars.MEASURED));
+        changedNothingOfLabelsAndBottles("of one brought back", x);
+
+        Cellarscheduler y = labelled(28, true);
+        y.brew(2, 1, 300, 0);
+        y.pass(4);
+        y.print(1, 1);
+        y.bottle(1, 1);
+        check.due("the other is brought back", 249, y.blend(1, 2, 1));
+        check.due("with the other brought back", 30, y.blend(0, 1, 1));
+        check.due("it is foretold with that", 0, y.ofBrew(0, Cellars.MEASURED));
+        changedNothingOfLabelsAndBottles("with the other brought back", y);
+    }
+
+    private static void changedNothingOfLabelsAndBottles(String call, Cellarscheduler x) {
+        check.due("owed, " + call, 0, x.owed());
+        check.due("void, " + call, 0, x.ofBrew(0, Cellars.VOID));
+        check.due("left, " + call, 7, x.ofBrew(0, Cellars.LABELS));
+        check.due("a measure of its class owes, " + call, 20, x.measure(0, 30));
     }
 
     private static void blendLeavesTheOtherAsItWas() {
